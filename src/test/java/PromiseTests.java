@@ -216,10 +216,14 @@ public final class PromiseTests {
         dueFault(x, "0*9;0*9;0*9;0*9;0*4;", 20);
         dueFault(x, "0*9;0*9;0*9;0*9;0*3;1", NONE);
         dueFault(x, "0*9;0*9;0*9;0*9;0*4;2", 20);
+        // a part is held against the 40 words when it stands whole
+        dueFault(x, "0*9;0*9;0*9;0*9;0*4;f*", 22);
+        dueFault(x, "0*9;0*9;0*9;0*9;0*4;f*x", 22);
         StringBuilder full = new StringBuilder("f");
         for (int i = 1; i < 40; i++) full.append(";f");
         dueFault(x, full.toString(), NONE);
         dueFault(x, full.append(';').toString(), 80);
+        dueFault(x, full.toString().substring(0, 79) + "*", 80);
         retype(x, "2");
         due("fault()", x.fault(), 0);
         x.band(3);
@@ -384,6 +388,8 @@ public final class PromiseTests {
         due("share, true with guess 1", x.share(0, 0, 1, 1), LONG_NOT);
         tell(x, 0, "0000");
         dueShare(x, 0, 0, 0, 0, 1);
+        tell(x, 1, "1");
+        dueShare(x, 1, 0, 0, 1, 1);
     }
 
     private static void promise14() {
@@ -412,6 +418,14 @@ public final class PromiseTests {
         due("knows, no what", x.knows(0, 1, -1), LONG_BAD);
         tell(x, 0, "0000000000----");
         dueKnows(x, 0, 1, 0, 1);
+        x = with("0;5;f", 9, 9, 9, 9, 9, 7);
+        tell(x, 0, " 1");
+        dueKnows(x, 0, 1, 7, 1);
+        tell(x, 0, "1 0");
+        dueKnows(x, 0, 0, 0, 1);
+        dueKnows(x, 0, 1, 16, 1);
+        tell(x, 0, "  1");
+        dueKnows(x, 0, 0, 1, 1);
     }
 
     private static void promise15() {
@@ -438,6 +452,20 @@ public final class PromiseTests {
         due("may with 8 asked", x.may(1, 1, 255, 1), 30);
         tell(x, 1, "             -");
         due("may with as many asked as its size", x.may(1, 2, 255, 0), 2);
+        tell(x, 1, "           000");
+        tell(x, 1, "             -");
+        due("may, all asked, no yes", x.may(1, 2, 255, 0), 0);
+        due("may, all asked, no yes", x.may(1, 2, 0, 1), 0);
+        tell(x, 1, "           10");
+        due("may, all asked, one yes", x.may(1, 2, 255, 0), 1);
+        due("may, all asked, one yes", x.may(1, 2, 255, 1), 1);
+        WordsKnown large = with("0*8", 99);
+        tell(large, 0, "11111111");
+        due("may of 99, all yes", large.may(0, 0, 255, 0), 99);
+        due("may of 99, all yes", large.may(0, 0, 0, 0), 8);
+        tell(large, 0, "00000000");
+        due("may of 99, no yes", large.may(0, 0, 255, 1), 0);
+        due("may of 99, no yes", large.may(0, 0, 0, 1), 91);
         due("may with a fault in the list, none asked", x.may(1, 3, 0, 0), NOT);
         due("may, no band", x.may(0, 4, 0, 0), BAD);
         due("may, the false ones", x.may(0, NONE, 0, 0), BAD);
@@ -468,6 +496,16 @@ public final class PromiseTests {
         tell(x, 1, "       -  -");
         due("likeliest with 5 asked, as many as its size", x.likeliest(1, 1, 0), 4);
         due("likeliest with as many asked as its size", x.likeliest(1, 2, 0), 2);
+        WordsKnown large = with("0*5", 99);
+        tell(large, 0, "11100");
+        // C(59, 3) * C(40, 2) is as much as C(60, 3) * C(39, 2)
+        due("likeliest of 99, of like ones the least", large.likeliest(0, 0, 0), 59);
+        tell(large, 0, "11111");
+        due("likeliest of 99, all yes", large.likeliest(0, 0, 3), 99);
+        WordsKnown half = with("0*3", 50);
+        tell(half, 0, "110");
+        due("likeliest, guessed every other time", half.likeliest(0, 0, 8), 17);
+        due("likeliest, never guessed", half.likeliest(0, 0, 0), 33);
         due("likeliest, no band", x.likeliest(0, 4, 0), BAD);
         due("likeliest, the false ones", x.likeliest(0, NONE, 0), BAD);
         due("likeliest, no taker", x.likeliest(4, 0, 0), BAD);
@@ -554,6 +592,37 @@ public final class PromiseTests {
         books(like, row(1), row(2), row(1, 1), row(3));
         dueLadder(like, 100, 1, 0, 1, 3);
         dueLadder(like, 50, 1, 0, 1, 3, 2);
+        // what was met in two books together
+        WordsKnown two = with("0", 10, 20);
+        tell(two, 0, "1");
+        books(two, row(9, 9), row(9, 11), row(0, 5));
+        dueLadder(two, 45, 1, 0, 1, 2);
+        dueCover(two, 0, 2, 0, 1);
+        two.run(1, 1, 10);
+        dueLadder(two, 45, 1, 0, 1);
+        dueCover(two, 0, 2, 0, 1);
+        two.run(0, 0, 0);
+        two.run(1, 0, 0);
+        dueLadder(two, 0, 1, 0, 1, 2);
+        due("easiest after a ladder", two.easiest(0), 0);
+        two.run(2, 0, 1);
+        due("easiest after a ladder", two.easiest(0), 2);
+        // the first band is learned as the others are
+        WordsKnown first = with("1", 3, 9);
+        tell(first, 0, "1");
+        books(first, row(3, 3), row(7));
+        dueLadder(first, 50, 1, 0, 1);
+        dueLadder(first, 50, 2, 0);
+        // six books, all read
+        for (int i = 0; i < 4; i++) books(first, row(0, 1));
+        dueLadder(first, 100, 1, 2, 3, 4, 5);
+        dueLadder(first, 0, 1, 2, 3, 4, 5, 0, 1);
+    }
+
+    private static void dueNext(int want, String text, String says, int... sizes) {
+        WordsKnown x = with(text, sizes);
+        tell(x, 0, says);
+        due("next(0) of " + text + " answered " + says, x.next(0), want);
     }
 
     private static void promise20() {
@@ -582,6 +651,19 @@ public final class PromiseTests {
         due("next, the smaller that was asked less", x.next(0), 0);
         due("next without bands", new WordsKnown().next(0), NONE);
         due("next without bands, bad", new WordsKnown().next(4), BAD);
+        dueNext(0, "0*4;1", "00001", 96, 24);
+        dueNext(0, "0*4;1", "", 20, 10);
+        dueNext(1, "0*4;1", "00001", 95, 24);
+        dueNext(0, "0*4;1", "11110", 96, 24);
+        dueNext(1, "0*4;1", "11110", 95, 24);
+        dueNext(0, "0;1*4", "10000", 24, 96);
+        dueNext(1, "0;1*4", "10000", 24, 97);
+        dueNext(0, "0*8;1*8", "0000000010000000", 80, 60);
+        dueNext(1, "0*8;1*8", "0000000010000000", 79, 60);
+        dueNext(1, "0*8;1*8", "1111111111111110", 80, 61);
+        dueNext(0, "0*8;1*8", "0000000101111111", 60, 60);
+        dueNext(5, "0;1;2;3;4;5", "101010", 9, 9, 9, 9, 9, 10);
+        dueNext(5, "0;1;2;3;4;5", "10101", 9, 9, 9, 9, 9, 1);
     }
 
     private static void promise21() {
@@ -600,6 +682,18 @@ public final class PromiseTests {
         due("deal(0, 4)", x.deal(0, 4), BAD);
         due("deal(0, NONE)", x.deal(0, NONE), BAD);
         due("deal without bands", new WordsKnown().deal(0, 0), BAD);
+        // 3600 by 8 * 9 is as much as 100 by 1 * 2
+        x = with("", 60, 10);
+        due("deal(9, 0)", x.deal(9, 0), 8);
+        due("deal(10, 0), of like ones the first", x.deal(10, 0), 9);
+        due("deal(11, 0)", x.deal(11, 0), 9);
+        due("deal(11, 1)", x.deal(11, 1), 2);
+        x = with("", 10, 60);
+        due("deal(9, 0)", x.deal(9, 0), 1);
+        due("deal(10, 0), of like ones the first", x.deal(10, 0), 2);
+        x = with("", 1, 2, 3, 4, 5, 6);
+        for (int band = 0; band < 6; band++) due("deal(6, " + band + ")", x.deal(6, band), 1);
+        due("deal(7, 5)", x.deal(7, 5), 2);
     }
 
     private static void promise22() {
@@ -926,6 +1020,15 @@ public final class PromiseTests {
         x.asOf(0);
         due("digest() as of another time", x.digest(), digestByCalls(x));
         due("digest() as of another time is another one", x.digest() == before ? 1 : 0, 0);
+        x = with("0*3", 2, 4);
+        tell(x, 0, "111");
+        tell(x, 1, "001");
+        tell(x, 2, "1");
+        books(x, row(10, 8), row(0, 1));
+        due("ladder(0, 50, 2, NONE)", x.ladder(0, 50, 2, NONE), 2);
+        due("ladder(0, 50, 3, NONE)", x.ladder(0, 50, 3, NONE), 1);
+        due("better(0, 1)", x.better(0, 1), 500000);
+        due("digest() of books that teach", x.digest(), digestByCalls(x));
     }
 
     /** Every refusal leaves all as it was. */
