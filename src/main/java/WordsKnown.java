@@ -42,6 +42,9 @@ public final class WordsKnown {
     private static final int MOST_ASKED_FOR_LIKELIEST = 5;
     private static final int MOST_ALONE = 24;
 
+    private static final int LEAST_INT = 1 << 31;
+    private static final long LEAST_LONG = 1L << 63;
+
     private final Dictionary dictionary;
     private final Shelf shelf;
     private final WordList list;
@@ -278,11 +281,11 @@ public final class WordsKnown {
     }
 
     public int get(int s, int form, int i) {
-        if (!isSheet(s) || !isForm(form)) return Integer.MIN_VALUE;
+        if (!isSheet(s) || !isForm(form)) return LEAST_INT;
         int finding = sheets.findingOfItem(s, form, i);
         if (finding == 0) return sheets.item(s, i);
         sheets.refuse(finding);
-        return Integer.MIN_VALUE;
+        return LEAST_INT;
     }
 
     public int copy(int s, int i, int t, int j, int n) {
@@ -392,7 +395,7 @@ public final class WordsKnown {
 
     /** As an answer that is a long tells a refusal. */
     private static long refusal(int code) {
-        return Long.MIN_VALUE - code;
+        return LEAST_LONG - code;
     }
 
     /** Where LEARNT (0), FORGOTTEN (1) and KEPT (2) stand if the first row is of the earlier time. */
@@ -825,9 +828,9 @@ public final class WordsKnown {
         }
 
         private void startAnew() {
-            Arrays.fill(wasRead, false);
-            Arrays.fill(isLearned, false);
             Arrays.fill(met, 0);
+            for (int book = 0; book < MOST_BOOKS; book++) wasRead[book] = false;
+            for (int band = 0; band < MOST_BANDS; band++) isLearned[band] = false;
         }
 
         private void meetWords(int book, Dictionary dictionary, int m) {

@@ -75,12 +75,14 @@ public final class LanguageRules {
     private static void checkText(String text) {
         String[] words = {"throw", "throws", "try", "catch", "finally", "synchronized", "assert", "double", "float", "new String",
             "Exact", "hashCode", "equals", "toString", "protected", "System.nano", "System.current", "System.exit", "System.out",
-            "Random", "Thread", "Exception", "Error", "Object", "StringBuilder", "List", "volatile", "transient", "native", "var"};
+            "Random", "Thread", "Exception", "Error", "Object", "StringBuilder", "List", "volatile", "transient", "native", "var",
+            "MIN_VALUE", "MAX_VALUE"};
         for (String word : words) hold(6, !Pattern.compile("\\b" + word + "\\b").matcher(text).find(), "the text has " + word);
         hold(2, !text.contains("->") && !text.contains("::"), "the text has a lambda or a method reference");
         hold(6, !Pattern.compile("static\\s*\\{").matcher(text).find(), "a static initialiser block");
         Matcher imports = Pattern.compile("\\bimport ([^;]*);").matcher(text);
         while (imports.find()) hold(4, imports.group(1).equals("java.util.Arrays"), "import " + imports.group(1));
+        hold(4, !Pattern.compile("fill\\([^;]*(true|false)\\)").matcher(text).find(), "a fill over a row that is not of numbers");
         hold(9, !Pattern.compile("\\bwhile\\b").matcher(text).find(), "a while: count instead");
         hold(9, !Pattern.compile("for \\(;|;\\s*;").matcher(text).find(), "a loop without a bound");
     }
