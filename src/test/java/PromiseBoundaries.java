@@ -137,6 +137,15 @@ public final class PromiseBoundaries extends Checks {
         dueAsked(x, 0, 0, 0, 0);
         type(x, "0*2");
         dueAsked(x, 0, 0, 2, 2);
+        // nothing of what it had is left behind the new bytes
+        x = with("f*9;f*9");
+        x.wipe();
+        int[][] anew = {{'f', NONE, 1}, {'*', 2, 0}, {'2', NONE, 2}, {';', 4, 0}, {'f', NONE, 3}, {'*', 6, 0}, {'3', NONE, 5}};
+        for (int[] r : anew) {
+            x.type(r[0]);
+            due("fault() of the new list", x.fault(), r[1]);
+            due("count(3) of the new list", x.count(3), r[2]);
+        }
     }
 
     private static void faultAndWord() {
@@ -901,6 +910,14 @@ public final class PromiseBoundaries extends Checks {
         due("digest() of " + told, digest, digestOf(all).longValue());
     }
 
+    /** A book with so many words of a band that is known and of one that is not, of such a SIZE; one of the latter alone. */
+    private static WordsKnown ladders(int known, int unknown, int size) {
+        WordsKnown x = told("0;1", "1", 99, size);
+        book(x, known, unknown);
+        book(x, 0, 1);
+        return x;
+    }
+
     private static void digest() {
         promise(33);
         sentence("h is 17; h becomes 31 h and each of (of each thing all that is told of it, then of the next one):");
@@ -932,6 +949,15 @@ public final class PromiseBoundaries extends Checks {
         due("ladder(0, 51, 2, NONE)", x.ladder(0, 51, 2, NONE), 0);
         due("ladder(0, 50, 3, NONE)", x.ladder(0, 50, 3, NONE), 2);
         dueDigest(x, 50 + 6 * 2 * 4 + 2 + 3 * 2 * 4);
+        dueDigest(ladders(49, 51, 20), 50 + 6 * 2 * 4 + 2 + 2 * 2 * 4);
+        dueDigest(ladders(50, 50, 50), 50 + 6 * 2 * 4 + 2 + 2 * 2 * 4);
+        dueDigest(ladders(50, 50, 26), 50 + 6 * 2 * 4 + 2 + 2 * 2 * 4);
+        due("ladder(0, 49, 2, NONE)", ladders(49, 51, 20).ladder(0, 49, 2, NONE), 2);
+        due("ladder(0, 50, 2, NONE)", ladders(49, 51, 20).ladder(0, 50, 2, NONE), 0);
+        due("ladder(0, 50, 1, NONE)", ladders(50, 50, 50).ladder(0, 50, 1, NONE), 2);
+        due("ladder(0, 50, 2, NONE)", ladders(50, 50, 50).ladder(0, 50, 2, NONE), 1);
+        due("ladder(0, 51, 2, NONE)", ladders(50, 50, 26).ladder(0, 51, 2, NONE), 0);
+        due("ladder(0, 50, 2, NONE)", ladders(50, 50, 26).ladder(0, 50, 2, NONE), 1);
         sentence("then of each BAND deal(20); pair(0, 1, 0 to 3), better(0, 1);");
         dueDigest(ahead(24), 50 + 6 * 4 + 1);
         dueDigest(ahead(25), 50 + 6 * 4 + 1);

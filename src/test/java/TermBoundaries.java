@@ -305,6 +305,12 @@ public final class TermBoundaries extends Checks {
         x.answer(0, 0, 0, 5);
         dueAsked(x, 0, 0, 1, 0);
         dueTaken("asOf", 0, 999, BAD, v -> new WordsKnown().asOf(v));
+        x = with("0*4", 9);
+        for (int i = 0; i < 8; i++) x.answer(i % 4, i % 4, 1 - i / 4, i);
+        for (int time = 7; time >= 0; time--) {
+            x.asOf(time);
+            for (int taker = 0; taker < 4; taker++) dueAsked(x, taker, 0, time < taker ? 0 : 1, time < taker || time >= taker + 4 ? 0 : 1);
+        }
     }
 
     private static WordsKnown at500() {
@@ -484,6 +490,8 @@ public final class TermBoundaries extends Checks {
         dueKnows(x, 0, 0, 1, 1);
         tell(x, 0, " --");
         dueKnows(x, 0, 0, 0, 1);
+        dueKnows(told("f", "1"), 0, 0, 1, 1);
+        dueKnows(told("f", "0"), 0, 0, 0, 1);
 
         sentence("PLAIN: YESES by ASKED of a BAND");
         x = told("0*3;f", "0001", 9);
@@ -611,6 +619,9 @@ public final class TermBoundaries extends Checks {
         dueTaken("g of likeliest", 0, 15, BAD, v -> asked(4, 2, 1).likeliest(0, 0, v));
         due("likeliest, guessed 7 by 16", asked(4, 2, 1).likeliest(0, 0, 7), 1);
         due("likeliest, guessed 15 by 16", asked(4, 2, 1).likeliest(0, 0, 15), 0);
+        // (99 - k) times ((98 - k) times g, and 16 k)
+        due("likeliest, 1 of 2 with yes of 99, guessed 1 by 16", asked(99, 2, 1).likeliest(0, 0, 1), 46);
+        due("likeliest, 1 of 2 with yes of 99, guessed 4 by 16", asked(99, 2, 1).likeliest(0, 0, 4), 33);
         due("likeliest, 5 ASKED", asked(99, 5, 5).likeliest(0, 0, 0), 99);
         due("likeliest, 6 ASKED", asked(99, 6, 6).likeliest(0, 0, 0), FULL);
         due("likeliest, 5 ASKED of SIZE 5", asked(5, 5, 3).likeliest(0, 0, 0), 3);
@@ -704,9 +715,20 @@ public final class TermBoundaries extends Checks {
         x.run(0, 0, 1);
         dueLadder(x, 33, 9, 0);
         dueLadder(x, 34, 9);
+        // 67 by 198 and 495 by 496, just below
+        x.run(0, 0, 67);
+        x.run(0, 1, 66);
+        x.run(0, 5, 65);
+        dueLadder(x, 33, 9, 0);
+        dueLadder(x, 34, 9);
         x.run(0, 1, 0);
         x.run(0, 0, 0);
+        x.run(0, 5, 0);
         dueLadder(x, 0, 9);
+        x = told("0;1;2;3;4;5", "11111", 99, 99, 99, 99, 99, 99);
+        book(x, 99, 99, 99, 99, 99, 1);
+        dueLadder(x, 99, 9, 0);
+        dueLadder(x, 100, 9);
         dueTaken("p of ladder", 0, 100, BAD, v -> rich().ladder(0, v, 1, NONE));
 
         sentence("the one with the greatest (of like ones the first) is read, as long as there is one");
@@ -762,6 +784,22 @@ public final class TermBoundaries extends Checks {
         dueCover(x, 0, 0, 1, 2);
         dueCover(x, 0, 1, 0, 1);
         due("easiest", x.easiest(0), 0);
+        // just 1: 60 of 100 with band 1 learned, then 30 of 100
+        x = told("0", "1", 99, 66);
+        book(x, 99, 66);
+        book(x, 0, 60, 40);
+        book(x, 0, 30, 70);
+        dueLadder(x, 60, 1, 0, 1);
+        dueLadder(x, 30, 1, 0, 1, 2);
+        // the first band, as any other; and what a ladder learned and read is so on that ladder alone
+        x = told("1", "1", 9, 99);
+        book(x, 9, 9);
+        book(x, 3);
+        dueLadder(x, 50, 1, 0, 1);
+        dueLadder(x, 50, 2, 0);
+        due("easiest just after a ladder", x.easiest(0), 0);
+        due("ladder", x.ladder(0, 50, 1, NONE), 2);
+        due("cover just after a ladder", x.cover(0, 1, 0), 0);
         // a band that is not there has no SIZE
         x = told("0", "1", 99);
         book(x, 99, 99);
@@ -792,6 +830,8 @@ public final class TermBoundaries extends Checks {
             x.answer(0, band, 1, 0);
         }
         due("next(1)", x.next(1), 1);
+        due("next(0), the first is the greatest", with("", 99, 98).next(0), 0);
+        due("next(0), the last is the greatest", with("", 98, 98, 98, 98, 98, 99).next(0), 5);
         // however doubtful another is
         x = told("0*9;1", "101010101", 99, 1);
         due("next(0), the one without", x.next(0), 1);
@@ -840,6 +880,7 @@ public final class TermBoundaries extends Checks {
         dueDeal(x, 4, 0, 1, 1, 1, 0, 1);
         dueDeal(x, 5, 0, 1, 1, 1, 1, 1);
         dueDeal(x, 6, 1, 1, 1, 1, 1, 1);
+        dueDeal(with("", 99, 98), 1, 1, 0);
 
         sentence("else to that with the greatest of SIZE times SIZE by (how many it has, times that and 1); of like ones the first: how many a BAND gets");
         // 3600 by 8 * 9 is as much as 100 by 1 * 2
@@ -950,6 +991,9 @@ public final class TermBoundaries extends Checks {
         x.asOf(0);
         dueLearnt(x, 0, 10, 20, 1, 1, 1);
         dueLearnt(x, 1, 10, 20, 0, 0, 0);
+        tell(x, 3, "10", 999);
+        dueLearnt(x, 3, 999, 999, 0, 0, 1);
+        dueLearnt(x, 3, 998, 999, 0, 0, 0);
         x.wipe();
         dueLearnt(x, 0, 10, 20, 0, 0, 0);
     }
