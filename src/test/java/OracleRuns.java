@@ -5,7 +5,8 @@ import java.util.List;
 // Long runs of calls on WordsKnown and on a slow second writing of the document, answer against answer.
 public final class OracleRuns {
 
-    private static final int RUNS = 400, CALLS = 512;
+    // An object is used for 512 calls at most; a step makes some six of them.
+    private static final int RUNS = 450, STEPS = 212, CALLS = 512, MOST_OF_A_STEP = 10;
 
     /** The document in its slowest form: nothing is kept but what was told, all is counted anew. */
     static final class Oracle {
@@ -504,6 +505,7 @@ public final class OracleRuns {
     private static long seed;
     private static int wrong = 0;
     private static int time;
+    private static int used;
 
     /** 0 to n - 1. */
     private static int any(int n) {
@@ -524,6 +526,7 @@ public final class OracleRuns {
 
     private static int aByte(WordsKnown x) {
         String bytes = "00112345fff***99753;;;;";
+        used += 4;
         if (any(40) == 0) return about(0, 255);
         // mostly what the list can go on with
         int last = x.count(2);
@@ -533,6 +536,7 @@ public final class OracleRuns {
     }
 
     private static void same(String call, long got, long want) {
+        used++;
         if (got == want) return;
         wrong++;
         if (wrong < 40) System.out.println(call + " answered " + got + ", the oracle " + want);
@@ -576,6 +580,7 @@ public final class OracleRuns {
 
     private static void change(WordsKnown x, Oracle o) {
         int a = about(0, 3), b = about(0, 3);
+        used++;
         int form = any(4) == 0 ? about(0, 2) : a & 1;
         switch (any(18)) {
             case 0 -> { int v = about(1, 99); same("band " + v, x.band(v), o.band(v)); }
@@ -604,6 +609,7 @@ public final class OracleRuns {
     }
 
     private static void look(WordsKnown x, Oracle o) {
+        used++;
         int t = about(0, 3), band = any(5) == 0 ? about(-1, 5) : any(Math.max(1, x.count(0))), what = about(0, 1), which = about(0, 1);
         switch (any(22)) {
             case 0 -> same("fault", x.fault(), o.fault());
@@ -638,10 +644,11 @@ public final class OracleRuns {
         for (int run = 0; run < RUNS; run++) {
             seed = run * 977L + 5;
             time = 0;
+            used = 0;
             WordsKnown x = new WordsKnown();
             Oracle o = new Oracle();
             if (run % 4 > 0) makeRich(x, o);
-            for (int i = 0; i < CALLS - 300; i++) {
+            for (int i = 0; i < STEPS && used < CALLS - MOST_OF_A_STEP; i++) {
                 if (any(3) == 0) change(x, o);
                 else look(x, o);
                 if (i % 40 == 0) same("digest", x.digest(), o.digest());

@@ -52,8 +52,9 @@ public final class PromiseTests {
         return v;
     }
 
-    private static void dueFault(WordsKnown x, String text, int want) {
-        retype(x, text);
+    /** On an object of its own: one is used for 512 calls at most. */
+    private static void dueFault(String text, int want) {
+        WordsKnown x = with(text, 9, 9);
         due("fault() of " + text, x.fault(), want);
         if (want != NONE) due("count(3) of " + text, x.count(3), 0);
     }
@@ -184,47 +185,46 @@ public final class PromiseTests {
 
     private static void promise7() {
         promise = 7;
-        WordsKnown x = with("", 9, 9);
-        dueFault(x, "", NONE);
-        dueFault(x, "0", NONE);
-        dueFault(x, "1*9;f*2;f;0", NONE);
-        dueFault(x, "2", 0);
-        dueFault(x, "0;2", 2);
-        dueFault(x, "0;9*x", 2);
-        dueFault(x, "0;", 2);
-        dueFault(x, ";", 0);
-        dueFault(x, ";0", 0);
-        dueFault(x, "0;;0", 2);
-        dueFault(x, "0*", 2);
-        dueFault(x, "0*;", 2);
-        dueFault(x, "0*1", 2);
-        dueFault(x, "0*0", 2);
-        dueFault(x, "0*:", 2);
-        dueFault(x, "0*22", 3);
-        dueFault(x, "0*2*2", 3);
-        dueFault(x, "00", 1);
-        dueFault(x, "0f", 1);
-        dueFault(x, "F", 0);
-        dueFault(x, "g", 0);
-        dueFault(x, "/", 0);
-        dueFault(x, "0 ;1", 1);
-        dueFault(x, "0;1;?;2", 4);
-        dueFault(x, "0*9;0*9;0*9;0*9;0*4", NONE);
-        dueFault(x, "0*9;0*9;0*9;0*9;f*5", 16);
-        dueFault(x, "0*9;0*9;0*9;0*9;0*5x", 16);
-        dueFault(x, "0*9;0*9;0*9;0*9;0*4;f", 20);
-        dueFault(x, "0*9;0*9;0*9;0*9;0*4;", 20);
-        dueFault(x, "0*9;0*9;0*9;0*9;0*3;1", NONE);
-        dueFault(x, "0*9;0*9;0*9;0*9;0*4;2", 20);
+        dueFault("", NONE);
+        dueFault("0", NONE);
+        dueFault("1*9;f*2;f;0", NONE);
+        dueFault("2", 0);
+        dueFault("0;2", 2);
+        dueFault("0;9*x", 2);
+        dueFault("0;", 2);
+        dueFault(";", 0);
+        dueFault(";0", 0);
+        dueFault("0;;0", 2);
+        dueFault("0*", 2);
+        dueFault("0*;", 2);
+        dueFault("0*1", 2);
+        dueFault("0*0", 2);
+        dueFault("0*:", 2);
+        dueFault("0*22", 3);
+        dueFault("0*2*2", 3);
+        dueFault("00", 1);
+        dueFault("0f", 1);
+        dueFault("F", 0);
+        dueFault("g", 0);
+        dueFault("/", 0);
+        dueFault("0 ;1", 1);
+        dueFault("0;1;?;2", 4);
+        dueFault("0*9;0*9;0*9;0*9;0*4", NONE);
+        dueFault("0*9;0*9;0*9;0*9;f*5", 16);
+        dueFault("0*9;0*9;0*9;0*9;0*5x", 16);
+        dueFault("0*9;0*9;0*9;0*9;0*4;f", 20);
+        dueFault("0*9;0*9;0*9;0*9;0*4;", 20);
+        dueFault("0*9;0*9;0*9;0*9;0*3;1", NONE);
+        dueFault("0*9;0*9;0*9;0*9;0*4;2", 20);
         // a part is held against the 40 words when it stands whole
-        dueFault(x, "0*9;0*9;0*9;0*9;0*4;f*", 22);
-        dueFault(x, "0*9;0*9;0*9;0*9;0*4;f*x", 22);
+        dueFault("0*9;0*9;0*9;0*9;0*4;f*", 22);
+        dueFault("0*9;0*9;0*9;0*9;0*4;f*x", 22);
         StringBuilder full = new StringBuilder("f");
         for (int i = 1; i < 40; i++) full.append(";f");
-        dueFault(x, full.toString(), NONE);
-        dueFault(x, full.append(';').toString(), 80);
-        dueFault(x, full.toString().substring(0, 79) + "*", 80);
-        retype(x, "2");
+        dueFault(full.toString(), NONE);
+        dueFault(full.append(';').toString(), 80);
+        dueFault(full.toString().substring(0, 79) + "*", 80);
+        WordsKnown x = with("2", 9, 9);
         due("fault()", x.fault(), 0);
         x.band(3);
         due("fault() with the band there", x.fault(), NONE);
@@ -1003,20 +1003,28 @@ public final class PromiseTests {
         return 31 * h + x.better(0, 1);
     }
 
+    private static WordsKnown forDigest() {
+        WordsKnown x = with("0*3;1*4;2;f*3", 9, 21, 50, 99);
+        tell(x, 0, "1101101100");
+        tell(x, 1, "10101011111");
+        x.answer(3, 0, 0, 1);
+        x.answer(3, 2, 1, 2);
+        for (int word = 7; word < 11; word++) x.answer(3, word, 1, 2);
+        books(x, row(10, 20), row(0, 5, 3), row(), row(1, 2, 3, 4, 5, 6));
+        return x;
+    }
+
     private static void promise33() {
         promise = 33;
         WordsKnown x = new WordsKnown();
         due("digest() of a new object", x.digest(), digestByCalls(x));
         due("digest() of a new object", x.digest(), -1995736755919490855L);
-        x = with("0*3;1*4;2;f*3", 9, 21, 50, 99);
-        tell(x, 0, "1101101100");
-        tell(x, 1, "10101011111");
-        tell(x, 3, "0 1    1111");
-        books(x, row(10, 20), row(0, 5, 3), row(), row(1, 2, 3, 4, 5, 6));
+        x = forDigest();
         long before = x.digest();
         due("digest()", before, digestByCalls(x));
         x.lose(0);
         due("digest() after a finding", x.digest(), before);
+        x = forDigest();
         x.asOf(0);
         due("digest() as of another time", x.digest(), digestByCalls(x));
         due("digest() as of another time is another one", x.digest() == before ? 1 : 0, 0);

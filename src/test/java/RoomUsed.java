@@ -5,6 +5,9 @@ public final class RoomUsed {
 
     private static final long MOST_FOR_NEW = 40_000, MOST_FOR_CALLS = 4_000;
 
+    // Eight calls each, behind some 200 that make the object rich: 512 at most.
+    private static final int ROUNDS = 37;
+
     private static long allocated() {
         return ((com.sun.management.ThreadMXBean) ManagementFactory.getThreadMXBean())
             .getThreadAllocatedBytes(Thread.currentThread().getId());
@@ -27,7 +30,7 @@ public final class RoomUsed {
 
     private static long callAll(WordsKnown x) {
         long sum = 0;
-        for (int i = 0; i < 64; i++) {
+        for (int i = 0; i < ROUNDS; i++) {
             sum += x.digest() + x.learnt(0, 3, 90, 0) + x.may(0, 1, i, 0) + x.likeliest(0, 5, i % 16);
             sum += x.asOf(i) + x.write(0, 1) + x.sheet(0, i % 3, i % 60) + x.read(1, 0, 500);
         }
@@ -44,7 +47,7 @@ public final class RoomUsed {
         long before = allocated();
         long sum = callAll(y);
         long used = allocated() - before;
-        System.out.println("a new object: " + (made - start) + " bytes; 512 calls: " + used + " bytes");
+        System.out.println("a new object: " + (made - start) + " bytes; the calls of one: " + used + " bytes");
         if (made - start > MOST_FOR_NEW || used > MOST_FOR_CALLS || x.digest() == sum) System.exit(1);
     }
 }
