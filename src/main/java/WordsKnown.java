@@ -958,7 +958,7 @@ public final class WordsKnown {
                 if (Math.abs(2 * k - turned) >= lead) uneven += ways;
                 ways = ways * (turned - k) / (k + 1);
             }
-            return (int) (uneven * 1000000 / power(2, turned));
+            return (int) (uneven * 1000000 >> turned);
         }
     }
 
